@@ -846,15 +846,16 @@ public final class StateVault {
             if (index < least || index >= size) {
                 failAt(start);
             }
-            refuseThirdDigit();
+            if (isDigitNext()) {
+                failAt(at);
+            }
             return fault == NONE ? index : 0;
         }
 
+        /** No number comes behind this one, so that a third digit is refused where the semicolon must stand. */
         private int takeNumber() {
             skipBlanks();
-            int number = takeDigits();
-            refuseThirdDigit();
-            return number;
+            return takeDigits();
         }
 
         private int takeAmount() {
@@ -863,9 +864,7 @@ public final class StateVault {
                 return takeNumber();
             }
             at++;
-            int amount = takeDigits();
-            refuseThirdDigit();
-            return -amount;
+            return -takeDigits();
         }
 
         private int takeDigits() {
@@ -880,12 +879,6 @@ public final class StateVault {
                 at++;
             }
             return number;
-        }
-
-        private void refuseThirdDigit() {
-            if (isDigitNext()) {
-                failAt(at);
-            }
         }
 
         private void takeSemicolon() {

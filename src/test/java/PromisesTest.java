@@ -13,6 +13,7 @@ public final class PromisesTest {
         testPlayWrittenForms();
         testPlayFaults();
         testPlayIndexFaults();
+        testPlayFullText();
         testPlayIsOneChange();
         testRaise();
         testKeepWhole();
@@ -224,6 +225,19 @@ public final class PromisesTest {
         fault(1, "se 1 2;", 0);
         fault(1, "sets 1 2;", 0);
         fault(1, "setadd 1 2;", 0);
+        fault(1, "seta 1 2;", 0);
+        fault(1, "setz 1 2;", 0);
+        fault(1, "set`1 2;", 3);
+        fault(1, "set{1 2;", 3);
+        fault(1, "xet 1 2;", 0);
+        fault(1, "sit 1 2;", 0);
+        fault(1, "sex 1 2;", 0);
+        fault(1, "bdd 1 2;", 0);
+        fault(1, "swab 1 2;", 0);
+        fault(1, "full 1 2 3;", 0);
+        fault(1, "burn 1 2;", 0);
+        fault(1, "set 1 /;", 6);
+        fault(1, "set 1 :;", 6);
         fault(1, "Set 1 2;", 0);
         fault(1, "sEt 1 2;", 0);
         fault(1, "set 1 2;tur", 8);
@@ -306,6 +320,33 @@ public final class PromisesTest {
         fault(3, "turn 11 12;", 8);
         plays(3, "turn 5 11;", 1);
         plays(1, "swap 5 4;", 1);
+    }
+
+    /** Texts of 80 bytes, with whatever can stand at their end, and texts with older bytes behind them. */
+    private static void testPlayFullText() {
+        String seven = "add0 1;".repeat(10);
+        plays(1, seven + "add1   1 ;", 11);
+        plays(1, seven + "add1  99; ", 11);
+        fault(1, seven + "add1     2", 80);
+        fault(1, seven + "add1    02", 80);
+        fault(1, seven + "add1     -", 80);
+        fault(1, seven + "add1      ", 80);
+        fault(1, seven + "add      1", 80);
+        fault(1, seven + "add     01", 80);
+        fault(1, seven + "       add", 80);
+        fault(1, seven + "        ad", 78);
+        fault(1, seven + "fill1    0", 79);
+        fault(1, " ".repeat(79) + "8", 79);
+        plays(1, " ".repeat(80), 0);
+        StateVault x = new StateVault();
+        write(x, "set 1 23;");
+        due("ends before older bytes", script(x, "set 1 2"), -2007);
+        write(x, "set 1 23;");
+        due("ends before an older word", script(x, "se"), -2000);
+        write(x, "        ;");
+        due("ends before older blanks", script(x, "set 1"), -2005);
+        write(x, "fill 1 1 1;");
+        due("ends before an older semicolon", script(x, "fill 1 1 1"), -2010);
     }
 
     private static void testPlayIsOneChange() {
@@ -417,6 +458,11 @@ public final class PromisesTest {
         }
         due("20 kept states", x.keep(), FULL);
         due("no change", x.count(7), 20);
+        due("16 are differences without entries", x.count(6), 5 * 8 + 15 * 2);
+        due("pack 20", x.pack(), 70 - (8 + 19 * 2));
+        due("undo pack", x.undo(), 5);
+        due("drop of 20 with mending", x.drop(0, true), 0);
+        due("undo drop", x.undo(), 5);
         for (int k = 20; k < 99; k++) {
             x.drop(k - 20, false);
             due("keep no. " + k, x.keep(), k);
@@ -442,8 +488,10 @@ public final class PromisesTest {
         x.keep();
         script(x, "fill 0 7 1;");
         x.keep();
+        due("changes before", x.count(9), 4);
         due("load the first one", x.load(0), 1);
         values("loaded", x, 3, 9, 0, 0, 2, 0, 0, 60);
+        due("a change", x.count(9), 5);
         due("origin", x.count(1), 0);
         x.raise();
         x.raise();
@@ -773,6 +821,19 @@ public final class PromisesTest {
             due("state before change " + i, y.digest(), digests[i]);
         }
         due("the same changes again", change(y, 0), changes[0]);
+        StateVault z = new StateVault();
+        z.keep();
+        script(z, "set 5 9;");
+        z.keep();
+        z.drop(0, false);
+        z.drop(1, false);
+        z.keep();
+        z.undo();
+        z.undo();
+        due("number of the entry that was dropped", z.entry(1, 0, 0), 5);
+        due("its base", z.kept(1, 2), 0);
+        due("undo of the drop of its base", z.undo(), 3);
+        readValues("again", z, 1, 0, 0, 0, 0, 0, 0, 9, 0, 0);
     }
 
     private static int change(StateVault x, int which) {
@@ -1003,10 +1064,18 @@ public final class PromisesTest {
         due("nearest of the rest", x.nearest(), 0);
         x.drop(0, false);
         due("none that can be read", x.nearest(), NONE);
+        StateVault y = new StateVault();
+        y.raise();
+        y.raise();
+        y.keep();
+        script(y, "fill 0 11 99;");
+        due("all values are different", y.nearest(), 0);
     }
 
     private static void testCount() {
         StateVault x = new StateVault();
+        x.keep();
+        due("the longest chain of one", x.count(8), 1);
         due("count(-1)", x.count(-1), BAD);
         due("count(13)", x.count(13), BAD);
         due("count(MIN)", x.count(MIN), BAD);
