@@ -567,6 +567,7 @@ public final class DescriptionBoundariesTest {
         testWhatIsNoChange();
         testSixStates();
         testUndoRestores();
+        testUndoRestoresForms();
         testTextIsNoPart();
     }
 
@@ -642,6 +643,32 @@ public final class DescriptionBoundariesTest {
         x.undo();
         due("setting 0 again", x.count(11), 8);
         due("no more", x.undo(), STATE);
+    }
+
+    /** The same for kept states of several forms, dropped from the greatest number to the least. */
+    private static void testUndoRestoresForms() {
+        StateVault x = Cases.keptOne(1, "set 7 8;");
+        x.raise();
+        Cases.script(x, "set 0 5;");
+        x.keep();
+        x.raise();
+        Cases.script(x, "set 11 9;");
+        x.keep();
+        int[] sums = {x.kept(0, 1), x.kept(1, 1), x.kept(2, 1)};
+        for (int k = 2; k >= 0; k--) {
+            x.drop(k, false);
+        }
+        x.keep();
+        due("undo of keep()", x.undo(), 5);
+        for (int k = 0; k <= 2; k++) {
+            x.undo();
+            due("form of " + k, x.kept(k, 0), k + 1);
+            due("sum of " + k, x.kept(k, 1), sums[k]);
+            due("base of " + k, x.kept(k, 2), k - 1);
+            due("entries of " + k, x.kept(k, 3), k == 0 ? 8 : 1);
+            due(k + " can be read", x.kept(k, 5), 1);
+        }
+        due("values of the form 3", x.read(2, 0, 11), 9);
     }
 
     /** "The text does not belong to the state." */

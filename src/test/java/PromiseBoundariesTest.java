@@ -173,7 +173,14 @@ public final class PromiseBoundariesTest {
         StateVault x = Cases.played(1, "add0 9;".repeat(11) + "   ");
         due("length", x.count(10), 80);
         due("again", x.play(), 11);
-        due("no text", Cases.fresh().play() + Cases.fresh().count(10), 0);
+        StateVault y = Cases.written(1, "add0 9;x");
+        due("a fault", y.play(), -2007);
+        due("the text stays with a fault, too", y.count(10), 8);
+        due("and has it again", y.play(), -2007);
+        y.clear();
+        due("without the text, no fault", y.play(), 0);
+        due("another text, no fault", Cases.script(y, "add0 9;"), 1);
+        due("another fault", Cases.script(y, " x"), -2001);
     }
 
     // Promise 5
@@ -245,8 +252,10 @@ public final class PromiseBoundariesTest {
                 Cases.Maker maker = () -> raised(kept, game);
                 CASES.changes("form " + own + " in a game of form " + form, maker, x -> x.load(0), form);
                 StateVault x = maker.make();
+                Cases.script(x, "fill 0 " + (5 + 2 * form) + " 1;");
                 x.load(0);
                 due("form then", x.count(0), form);
+                due("first value", x.value(0), 0);
                 due("last value", x.value(5 + 2 * form), form == 3 ? 50 : 8);
             }
         }
@@ -254,7 +263,8 @@ public final class PromiseBoundariesTest {
 
     /** One of a form is kept, its last value 8 or 50, and the game raised to another form. */
     private static StateVault raised(int own, int game) {
-        StateVault x = Cases.keptOne(own, own == 1 ? "set 7 8;" : own == 2 ? "set 9 8;" : "");
+        String[] scripts = {"set 7 8;", "set 9 8;", "set 11 50;"};
+        StateVault x = Cases.keptOne(own, scripts[own - 1]);
         for (int form = own; form < game; form++) {
             x.raise();
         }
@@ -274,7 +284,10 @@ public final class PromiseBoundariesTest {
                 };
                 CASES.changes("form " + own + " in a game of form " + form, maker, x -> x.load(0), own);
                 StateVault x = maker.make();
+                Cases.script(x, "fill 0 " + (5 + 2 * form) + " 1;");
                 x.load(0);
+                due("first value", x.value(0), 0);
+                due("last value", x.value(5 + 2 * own), own == 3 ? 50 : 8);
                 due("no more values", x.value(6 + 2 * own), NONE);
             }
         }
@@ -1012,10 +1025,10 @@ public final class PromiseBoundariesTest {
         StateVault y = Cases.keptOne(1, "set 0 3;set 1 9;set 7 60;");
         y.raise();
         y.raise();
-        Cases.script(y, "set 8 0;set 10 0;");
+        Cases.script(y, "set 8 0;set 10 0;set 11 0;");
         y.keep();
-        due("raised, then two values", y.apart(0, 1), 2);
-        due("turned", y.apart(1, 0), 2);
+        due("raised, then three values", y.apart(0, 1), 3);
+        due("turned", y.apart(1, 0), 3);
     }
 
     // Promise 19

@@ -243,8 +243,8 @@ public final class TextBoundariesTest {
     private static void testLetters() {
         plays(1, "set0 1;add0 1;swap0 1;fill0 1 2;turn0 1;", 5);
         String[] none = {
-            "a", "z", "ad", "adda", "addz", "se", "sett", "sets", "swa", "swaps", "swapa", "fil", "fills", "tur", "turns",
-            "setadd", "addset", "aset", "zset", "tes", "dda", "paws", "wap", "et", "az",
+            "a", "z", "ad", "adda", "addz", "se", "sett", "sets", "swa", "swaps", "swapa", "fil", "fills", "tur",
+            "turns", "setadd", "addset", "aset", "zset", "tes", "dda", "paws", "wap", "et", "az",
         };
         for (String letters : none) {
             fault(1, letters, 0);
@@ -253,6 +253,7 @@ public final class TextBoundariesTest {
             fault(1, "set 0 1;  " + letters + " 0 1;", 10);
             fault(1, "set 0 1;" + letters, 8);
         }
+        testNeighbouringLetters();
         fault(1, "sEt 0 1;", 0);
         fault(1, "setA 0 1;", 3);
         fault(1, "set` 0 1;", 3);
@@ -260,6 +261,18 @@ public final class TextBoundariesTest {
         fault(1, "set set 0 1;", 4);
         fault(1, "set 0 set;", 6);
         fault(1, "z".repeat(80), 0);
+    }
+
+    private static void testNeighbouringLetters() {
+        for (String word : new String[] {"set", "add", "swap", "fill", "turn"}) {
+            for (int i = 0; i < word.length(); i++) {
+                for (int step = -1; step <= 1; step += 2) {
+                    char other = (char) (word.charAt(i) + step);
+                    String spoilt = word.substring(0, i) + other + word.substring(i + 1);
+                    fault(1, spoilt + " 0 1;", 0);
+                }
+            }
+        }
     }
 
     /** "for an index that the game does not have by its first two digits ... that of its first digit" */
