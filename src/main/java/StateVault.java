@@ -417,6 +417,7 @@ public final class StateVault {
     }
 
     private int causeOf(int kept, int depth, int what) {
+        // A base has a lesser number than what is kept from it, so that no chain of causes is as long as this.
         if (depth > NUMBERS) {
             return NONE;
         }
@@ -627,6 +628,7 @@ public final class StateVault {
             return followers;
         }
 
+        /** Those without a base: to be whole is kept as having the base NONE. */
         private int wholeOnes() {
             return followersOf(NONE);
         }
